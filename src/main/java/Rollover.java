@@ -347,7 +347,7 @@ public final class Rollover {
 
     public boolean isSound() {
         refresh();
-        return current.isSharedOut() && current.isWithinLimits() && current.isWithinCaps() && books.hasNoGrandchild();
+        return allIsSound();
     }
 
     public long digest() {
@@ -370,7 +370,7 @@ public final class Rollover {
         for (int carrier = 1; carrier < CARRIERS; carrier++) {
             d = mixed(d, carriers.settlementWith(carrier, books.log));
         }
-        return mixed(d, isSound() ? 1 : 0);
+        return mixed(d, allIsSound() ? 1 : 0);
     }
 
     // ---- what arguments are tested for
@@ -502,6 +502,10 @@ public final class Rollover {
             default:
                 return suspectCount();
         }
+    }
+
+    private boolean allIsSound() {
+        return current.isSharedOut() && current.isWithinLimits() && current.isWithinCaps() && books.hasNoGrandchild();
     }
 
     private int allBills() {
