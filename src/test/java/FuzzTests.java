@@ -2,6 +2,9 @@
 public final class FuzzTests {
     private static final int RUNS = 400;
     private static final int CALLS = 300;
+    // What an object answers behind its 512th call is free.
+    private static final int MOST_CALLS = 512;
+    private static int made;
     private static int wrong = 0;
     private static long state;
 
@@ -35,6 +38,7 @@ public final class FuzzTests {
     }
 
     private static void same(int run, String what, Question mine, Question naive) {
+        made++;
         Object got = answer(mine);
         Object want = answer(naive);
         if (!got.equals(want)) {
@@ -51,6 +55,7 @@ public final class FuzzTests {
 
     private static void oneRun(int run) {
         state = 77 + run * 1000003L;
+        made = 0;
         Rollover x = new Rollover();
         NaiveHouse y = new NaiveHouse();
         boolean isTight = next(2) == 0;
@@ -61,7 +66,8 @@ public final class FuzzTests {
             else ask(run, x, y);
         }
         same(run, "digest()", () -> x.digest(), () -> y.digest());
-        askAll(run, x, y);
+        while (made < MOST_CALLS - 1) ask(run, x, y);
+        same(run, "the last digest()", () -> x.digest(), () -> y.digest());
     }
 
     private static void setUp(int run, Rollover x, NaiveHouse y) {
@@ -219,27 +225,6 @@ public final class FuzzTests {
             }
             default:
                 same(run, "isSound", () -> x.isSound(), () -> true);
-        }
-    }
-
-    private static void askAll(int run, Rollover x, NaiveHouse y) {
-        for (int k = 0; k < y.tickets.size(); k++) {
-            int t = k;
-            same(run, "line", () -> x.line(t), () -> y.line(t));
-        }
-        for (int k = 0; k < y.customers.size(); k++) {
-            int c = k;
-            for (int i = 0; i < 12; i++) {
-                int cycle = i;
-                same(run, "best", () -> x.best(c, cycle, false), () -> y.best(c, cycle, false));
-                same(run, "bill", () -> x.ofCycle(c, cycle, 0), () -> y.ofCycle(c, cycle, 0));
-            }
-            for (int i = 0; i <= y.today; i += 1 + next(9)) {
-                int day = i;
-                same(run, "ofDay", () -> x.ofDay(c, day, 1), () -> y.ofDay(c, day, 1));
-                same(run, "ofDay", () -> x.ofDay(c, day, 2), () -> y.ofDay(c, day, 2));
-                same(run, "ofDay", () -> x.ofDay(c, day, 3), () -> y.ofDay(c, day, 3));
-            }
         }
     }
 }

@@ -6,43 +6,7 @@ import java.util.Set;
 import java.util.TreeSet;
 
 /** Promise by promise: ordinary inputs, the edges that the document names, and wrong inputs. */
-public final class PromiseTests {
-    private static final int NONE = -1;
-    private static final String INDEX = "IndexOutOfBoundsException";
-    private static final String ARGUMENT = "IllegalArgumentException";
-    private static final String STATE = "IllegalStateException";
-    private static int promise;
-    private static int passed;
-    private static int wrong;
-
-    private interface Question {
-        Object ask();
-    }
-
-    private static void due(Object want, Question q) {
-        Object got;
-        try {
-            got = q.ask();
-        } catch (RuntimeException e) {
-            got = e.getClass().getSimpleName();
-        }
-        if (want.equals(got)) {
-            passed++;
-        } else {
-            wrong++;
-            StackTraceElement at = new Throwable().getStackTrace()[1];
-            System.out.println("promise " + promise + ", line " + at.getLineNumber() + ": answered " + got + ", due is "
-                    + want);
-        }
-    }
-
-    /** What is refused changes nothing. */
-    private static void refused(String want, Rollover x, Question q) {
-        long before = x.digest();
-        due(want, q);
-        due(before, () -> x.digest());
-    }
-
+public final class PromiseTests extends Checks {
     public static void main(String[] args) {
         theFace();
         aNewObject();
@@ -73,29 +37,7 @@ public final class PromiseTests {
         wouldCost();
         isSound();
         digest();
-        System.out.println(passed + " passed, " + wrong + " failed");
-        if (wrong != 0) System.exit(1);
-    }
-
-    /** TODAY is 40; PLAN 0 (fee 10, grant 300, price 5), CUSTOMERS 0 and 1 from DAY 30, 2 from DAY 39 on. */
-    private static Rollover three() {
-        Rollover x = new Rollover();
-        x.plan(10, 300, 5);
-        x.pass(40);
-        x.join(0, 10);
-        x.join(0, 10);
-        x.join(0, 1);
-        return x;
-    }
-
-    /** A CUSTOMER of DAY 0 without GRANT, whose seconds are counted one by one six (FIRST 6, UNIT 6) at PRICE 1. */
-    private static Rollover bare() {
-        Rollover x = new Rollover();
-        x.plan(0, 0, 1);
-        x.units(0, 0, 6, 6, false);
-        x.join(0, 0);
-        x.join(0, 0);
-        return x;
+        end();
     }
 
     private static void theFace() {
@@ -182,7 +124,7 @@ public final class PromiseTests {
 
     private static void units() {
         promise = 3;
-        Rollover x = three();
+        Rollover x = Houses.three();
         due(60, () -> x.units(0, 1, 20, 50, true));
         due(50, () -> x.units(0, 3, 120, 120, false));
         due(120, () -> x.units(0, 0, 1, 6, false));
@@ -216,7 +158,7 @@ public final class PromiseTests {
 
     private static void steps() {
         promise = 4;
-        Rollover x = bare();
+        Rollover x = Houses.bare();
         due(0, () -> x.steps(0, 0, 2, 7));
         due(7, () -> x.steps(0, 9999, 99, 999));
         due(999, () -> x.steps(0, 12, 5, 0));
@@ -281,7 +223,7 @@ public final class PromiseTests {
 
     private static void change() {
         promise = 6;
-        Rollover x = three();
+        Rollover x = Houses.three();
         x.plan(20, 600, 1);
         x.plan(30, 900, 9);
         due(0, () -> x.change(0, 1));
@@ -309,7 +251,7 @@ public final class PromiseTests {
 
     private static void circle() {
         promise = 7;
-        Rollover x = three();
+        Rollover x = Houses.three();
         x.call(0, 3, 700, 15, 3, 400);
         due(420, () -> x.ofTicket(0, 6));
         due(4, () -> x.circle(0, 0x8421));
@@ -328,7 +270,7 @@ public final class PromiseTests {
 
     private static void child() {
         promise = 8;
-        Rollover x = three();
+        Rollover x = Houses.three();
         x.call(1, 1, 700, 15, 0, 420);
         x.call(1, 0, 700, 15, 0, 60);
         due(300, () -> x.ofTicket(0, 7));
@@ -399,7 +341,7 @@ public final class PromiseTests {
 
     private static void call() {
         promise = 10;
-        Rollover x = three();
+        Rollover x = Houses.three();
         due(0, () -> x.call(0, 10, 1439, 15, 3, 9999));
         due(1, () -> x.call(0, 0, 0, 0, 0, 1));
         due(NONE, () -> x.call(0, 0, 0, 0, 3, 500));
@@ -431,7 +373,7 @@ public final class PromiseTests {
         refused(STATE, x, () -> x.call(0, 0, 0, 0, 0, 1));
         refused(ARGUMENT, x, () -> x.call(0, 0, 0, 0, 0, 0));
         // Whatever comes late is rated as if in time; the zone costs a quarter each.
-        Rollover y = three();
+        Rollover y = Houses.three();
         y.call(0, 0, 100, 1, 2, 300);
         due("call 0 on day 40: 300+0+0", () -> y.line(0));
         y.call(0, 0, 99, 1, 1, 60);
@@ -443,7 +385,7 @@ public final class PromiseTests {
 
     private static void gift() {
         promise = 11;
-        Rollover x = three();
+        Rollover x = Houses.three();
         due(0, () -> x.gift(0, 1, 10, 5, 100));
         due(1, () -> x.gift(0, 2, 1, 0, 9999));
         due(100, () -> x.ofTicket(0, 7));
@@ -480,7 +422,7 @@ public final class PromiseTests {
 
     private static void addOn() {
         promise = 12;
-        Rollover x = three();
+        Rollover x = Houses.three();
         due(0, () -> x.addOn(0, 5, 700, 100, 3, 42));
         due(400, () -> x.ofDay(0, 35, 1));
         due(400, () -> x.ofDay(0, 37, 1));
@@ -516,7 +458,7 @@ public final class PromiseTests {
 
     private static void correct() {
         promise = 13;
-        Rollover x = three();
+        Rollover x = Houses.three();
         x.call(0, 2, 0, 0, 0, 300);
         x.call(0, 1, 0, 0, 0, 60);
         x.gift(0, 1, 0, 0, 50);
@@ -537,7 +479,7 @@ public final class PromiseTests {
         refused(STATE, x, () -> x.correct(2, 1));
         refused(STATE, x, () -> x.correct(3, 1));
         // Only the bill of its customer and cycle is told, though a parent pays more too.
-        Rollover y = three();
+        Rollover y = Houses.three();
         y.child(1, 0, 9999);
         y.call(1, 5, 0, 0, 0, 300);
         y.call(0, 0, 0, 0, 0, 300);
@@ -547,7 +489,7 @@ public final class PromiseTests {
 
     private static void undo() {
         promise = 14;
-        Rollover x = three();
+        Rollover x = Houses.three();
         x.child(1, 0, 9999);
         x.call(1, 5, 0, 0, 0, 600);
         x.call(0, 0, 0, 0, 0, 300);
@@ -580,7 +522,7 @@ public final class PromiseTests {
 
     private static void port() {
         promise = 15;
-        Rollover x = three();
+        Rollover x = Houses.three();
         due(3, () -> x.port(3, 0, 10));
         due(3, () -> x.carrier(3, 29));
         due(0, () -> x.carrier(3, 30));
@@ -606,7 +548,7 @@ public final class PromiseTests {
 
     private static void incoming() {
         promise = 16;
-        Rollover x = three();
+        Rollover x = Houses.three();
         x.call(0, 0, 0, 1, 0, 61);
         due(2, () -> x.incoming(1, 0));
         due(-3, () -> x.incoming(1, 5));
@@ -708,7 +650,7 @@ public final class PromiseTests {
         refused(ARGUMENT, x, () -> x.ofCycle(0, 0, -1));
         refused(ARGUMENT, x, () -> x.ofCycle(0, 0, 8));
         // Bills are rounded once: two charges of 125 hundredths are 250, so 3.
-        Rollover y = bare();
+        Rollover y = Houses.bare();
         y.call(0, 0, 0, 0, 1, 6);
         y.call(0, 0, 1, 0, 1, 6);
         due(3, () -> y.ofCycle(0, 0, 0));
@@ -716,7 +658,7 @@ public final class PromiseTests {
 
     private static void ofTicket() {
         promise = 19;
-        Rollover x = three();
+        Rollover x = Houses.three();
         x.child(1, 0, 50);
         x.call(1, 3, 77, 4, 3, 361);
         x.gift(0, 2, 0, 9, 999);
@@ -741,7 +683,7 @@ public final class PromiseTests {
 
     private static void carrier() {
         promise = 20;
-        Rollover x = three();
+        Rollover x = Houses.three();
         due(3, () -> x.carrier(15, 40));
         x.port(15, 2, 0);
         due(2, () -> x.carrier(15, 40));
@@ -754,7 +696,7 @@ public final class PromiseTests {
 
     private static void settlement() {
         promise = 21;
-        Rollover x = three();
+        Rollover x = Houses.three();
         x.circle(0, 2);
         x.call(0, 4, 0, 1, 0, 60);
         due(1, () -> x.settlement(1));
@@ -778,7 +720,7 @@ public final class PromiseTests {
 
     private static void suspect() {
         promise = 22;
-        Rollover x = three();
+        Rollover x = Houses.three();
         x.call(0, 1, 1439, 1, 0, 60);
         x.call(0, 0, 0, 2, 0, 60);
         due(0, () -> x.suspect(0));
@@ -791,7 +733,7 @@ public final class PromiseTests {
         x.call(0, 0, 0, 4, 0, 1);
         due(1, () -> x.suspect(0));
         // Voided calls do not count, nor do the numbers of other days.
-        Rollover y = three();
+        Rollover y = Houses.three();
         for (int k = 0; k < 4; k++) y.call(0, 1, 10 * k, k, 0, 1);
         y.call(0, 0, 500, 4, 0, 1);
         y.call(0, 1, 500, 3, 0, 1);
@@ -817,7 +759,7 @@ public final class PromiseTests {
 
     private static void house() {
         promise = 23;
-        Rollover x = three();
+        Rollover x = Houses.three();
         x.plan(50, 0, 0);
         x.call(0, 0, 0, 1, 0, 301);
         x.call(0, 0, 0, 2, 0, 1);
@@ -840,7 +782,7 @@ public final class PromiseTests {
 
     private static void line() {
         promise = 24;
-        Rollover x = three();
+        Rollover x = Houses.three();
         x.child(1, 0, 30);
         x.circle(1, 8);
         x.call(1, 2, 0, 4, 0, 361);
@@ -862,7 +804,7 @@ public final class PromiseTests {
 
     private static void best() {
         promise = 25;
-        Rollover x = three();
+        Rollover x = Houses.three();
         x.plan(4, 0, 6);
         x.plan(4, 0, 6);
         due(4, () -> x.best(0, 1, true));
@@ -891,7 +833,7 @@ public final class PromiseTests {
 
     private static void wouldCost() {
         promise = 26;
-        Rollover x = three();
+        Rollover x = Houses.three();
         due(0, () -> x.wouldCost(0, 500, 0, 0, 300));
         due(5 * 175, () -> x.wouldCost(0, 500, 0, 3, 301));
         x.call(0, 0, 500, 0, 0, 300);
@@ -926,7 +868,7 @@ public final class PromiseTests {
 
     private static void isSound() {
         promise = 27;
-        Rollover x = three();
+        Rollover x = Houses.three();
         x.child(1, 0, 30);
         x.steps(0, 60, 99, 7);
         x.call(1, 0, 0, 0, 3, 9999);
@@ -941,7 +883,7 @@ public final class PromiseTests {
 
     private static void digest() {
         promise = 28;
-        Rollover x = three();
+        Rollover x = Houses.three();
         x.child(1, 0, 30);
         x.call(1, 0, 0, 3, 3, 999);
         x.gift(0, 2, 0, 0, 5);
