@@ -928,7 +928,7 @@ public final class Rollover {
 
     /** One customer's buckets while it is rated, and what it was charged on the day that was rated last. */
     private static final class Purse {
-        private static final int ROOM = CYCLES + MOST_TICKETS + 1;
+        private static final int ROOM = CYCLES + MOST_TICKETS;
 
         final int[] left = new int[ROOM];
         final int[] lastDay = new int[ROOM];
@@ -941,7 +941,6 @@ public final class Rollover {
             count = 0;
             nextGrantCycle = joined / CYCLE_DAYS;
             chargeDay = NONE;
-            dayCharges = 0;
         }
 
         /** Buckets stand in the order in which they are emptied; they come in time, so behind their equals. */
@@ -1087,7 +1086,9 @@ public final class Rollover {
 
         /** Of a day from the customer's joining on. */
         private Plan planOf(int customer, int day) {
-            return books.plans[customer == triedCustomer ? triedPlan : books.customers[customer].planOfDay[day]];
+            int plan = customer == triedCustomer ? triedPlan : books.customers[customer].planOfDay[day];
+            // Nobody is without a plan on such a day; the test is for the index alone.
+            return books.plans[Math.max(plan, 0)];
         }
 
         private void grantUpTo(int day) {

@@ -27,6 +27,7 @@ public final class AnswerTests extends Checks {
         lines();
         wouldCostAsTheNextNumber();
         wouldCostOfWhatIsLeft();
+        wouldCostChangesNothing();
         soundAtAllLimits();
         digestWrapsAround();
         end();
@@ -614,6 +615,26 @@ public final class AnswerTests extends Checks {
         y.pass(1);
         y.change(0, 0);
         due(100, () -> y.wouldCost(0, 0, 0, 0, 60));
+    }
+
+    /** "(nothing is changed)": a CALL that only would be makes nobody SUSPECT, costs nothing, and doubles none. */
+    private static void wouldCostChangesNothing() {
+        promise = 26;
+        Rollover x = Houses.bare();
+        for (int k = 0; k < 4; k++) x.call(0, 0, 500 + 10 * k, k, 0, 60);
+        x.call(1, 0, 500, 2, 0, 60);
+        x.call(1, 0, 510, 3, 0, 60);
+        long before = x.digest();
+        // It would overlap, be to a fifth NUMBER, and to a third one of both.
+        due(166700, () -> x.wouldCost(0, 500, 4, 0, 9999));
+        due("0 0 0", () -> x.suspect(0) + " " + x.suspect(1) + " " + x.house(9));
+        due(100, () -> x.wouldCost(1, 490, 1, 0, 1));
+        due("0 0 0", () -> x.suspect(0) + " " + x.suspect(1) + " " + x.house(9));
+        due("5 0 6", () -> x.house(8) + " " + x.house(5) + " " + x.house(3));
+        due(before, () -> x.digest());
+        due(INDEX, () -> x.line(6));
+        due(6, () -> x.call(1, 0, 490, 1, 0, 1));
+        due("4 4 2", () -> x.suspect(0) + " " + x.suspect(1) + " " + x.house(9));
     }
 
     /** "whether all is SOUND": LIMITS and CAPS just reached, BUCKETS that are empty, CHILDREN without CHILDREN */

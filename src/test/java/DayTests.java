@@ -317,6 +317,15 @@ public final class DayTests extends Checks {
         due(2, () -> x.child(1, NONE, 0));
         due(NONE, () -> x.child(2, 3, 0));
         due(true, () -> x.isSound());
+        // Also if the CHILD is the first or the last CUSTOMER.
+        Rollover y = Houses.of(0, 0, 0, 4);
+        due(NONE, () -> y.child(0, 1, 5));
+        refused(STATE, y, () -> y.child(1, 2, 5));
+        due(1, () -> y.child(0, NONE, 5));
+        due(NONE, () -> y.child(3, 1, 5));
+        refused(STATE, y, () -> y.child(1, 2, 5));
+        due(1, () -> y.child(3, NONE, 5));
+        due(NONE, () -> y.child(1, 2, 5));
     }
 
     /** "parent: of which one; NONE: of nobody" */
@@ -615,5 +624,18 @@ public final class DayTests extends Checks {
         }
         refused(STATE, x, () -> x.undo(3));
         due(4, () -> x.call(0, 0, 9, 9, 0, 6));
+        // Of SECONDS that were left as well there are none any more: own ones, a parent's, and to give.
+        Rollover y = Houses.bare();
+        y.child(1, 0, 9999);
+        y.addOn(0, 0, 0, 600, 1, 9);
+        y.call(0, 0, 1, 0, 0, 60);
+        y.call(1, 0, 1, 0, 0, 60);
+        y.gift(0, 1, 0, 2, 60);
+        due(420, () -> y.ofDay(0, 0, 1));
+        y.undo(0);
+        due("call 1 on day 0: 0+0+60", () -> y.line(1));
+        due("call 2 on day 0: 0+0+60", () -> y.line(2));
+        due("gift 3 on day 0: 0", () -> y.line(3));
+        due(0, () -> y.ofDay(0, 0, 1) + y.ofDay(0, 0, 2) + y.ofDay(1, 0, 1));
     }
 }

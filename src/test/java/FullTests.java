@@ -63,6 +63,7 @@ public final class FullTests extends Checks {
         // All from CYCLE 0 on, but the first one (DAY 31).
         due(3 + 7 * 6, () -> x.house(6));
         due(NONE, () -> x.child(7, 6, 5));
+        due(true, () -> x.isSound());
         due(0, () -> x.gift(7, 0, 0, 0, 1));
         due(6, () -> x.child(7, NONE, 5));
     }
@@ -191,6 +192,16 @@ public final class FullTests extends Checks {
         due(28, () -> x.ofDay(1, 359, 2));
         due(121, () -> x.ofDay(1, 359, 3));
         due(24, () -> x.ofCycle(0, 11, 7));
+        // All 48 of one CUSTOMER: what a CALL would cost takes them all, and leaves them as they were.
+        Rollover y = Houses.of(0, 1, 1, 1);
+        y.units(0, 3, 1, 6, false);
+        Houses.passTo(y, 359);
+        for (int k = 0; k < 48; k++) y.addOn(0, 0, k, 6, 90, 1);
+        due(0, () -> y.wouldCost(0, 1439, 0, 0, 4 + 48 * 6 - 3));
+        due(100, () -> y.wouldCost(0, 1439, 0, 0, 4 + 48 * 6 + 3));
+        due(100 * (1667 - 48), () -> y.wouldCost(0, 1439, 0, 0, 9999));
+        due(52, () -> y.ofDay(0, 359, 2));
+        due(true, () -> y.isSound());
     }
 
     /** Without PLANS nobody can JOIN. */

@@ -1,4 +1,5 @@
 import java.io.IOException;
+import java.lang.reflect.Method;
 import java.nio.file.Files;
 import java.nio.file.Path;
 import java.util.List;
@@ -40,7 +41,17 @@ public final class LanguageTests {
             }
         }
         if (classes > 12) fault(1, classes + " classes");
+        noNameTwice();
         System.out.println((wrong == 0 ? "1 passed, 0" : "0 passed, 1") + " failed");
         if (wrong != 0) System.exit(1);
+    }
+
+    /** "No private method bears the name of a public one." */
+    private static void noNameTwice() {
+        for (Method one : Rollover.class.getDeclaredMethods()) {
+            for (Method other : Rollover.class.getDeclaredMethods()) {
+                if (!one.equals(other) && one.getName().equals(other.getName())) fault(1, "two of " + one.getName());
+            }
+        }
     }
 }
